@@ -378,7 +378,7 @@ public final class SegmentDesk {
         }
 
         int pop() {
-            if (depth() == 0) {
+            if (depth() <= 0) {
                 return 0;
             }
             usedWords--;

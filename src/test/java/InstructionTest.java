@@ -9,6 +9,7 @@ public final class InstructionTest {
         checkArithmetic(checks);
         checkLocals(checks);
         checkJumps(checks);
+        checkCodeAtByte0(checks);
         checkReturns(checks);
         checkEndInACall(checks);
         checkBadInstructions(checks);
@@ -87,6 +88,17 @@ public final class InstructionTest {
         checks.same("one step more", desk.step(9), 1);
         checks.same("BAD", desk.look(0), 3);
         checks.same("where it was", desk.look(7), place);
+    }
+
+    /** The bytes before the procedures are in the segment too: 1 2 pushes 2, and the 0 for no locals is END. */
+    private static void checkCodeAtByte0(Checks checks) {
+        SegmentDesk desk = Programs.started(0, 100, 0, Programs.JUMP, -5);
+        desk.step(1);
+        checks.same("at byte 0", desk.look(7), 0);
+        desk.step(1);
+        checks.looks("1 2 pushes 2", desk, 1, 5 + 8 + 4, 5 + 8 + 4, 1, 0, 1, 0, 2, 1);
+        desk.step(1);
+        checks.looks("the number of locals is END", desk, 2, 5 + 8 + 4, 5 + 8 + 4, 1, 0, 1, 0, 2, 1);
     }
 
     private static void checkReturns(Checks checks) {

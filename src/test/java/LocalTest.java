@@ -72,8 +72,12 @@ public final class LocalTest {
         checks.same("bare frames hold", bare.look(1), 4000);
         SegmentDesk full = Programs.started(0, 4000, 6, Programs.GET, 0, Programs.CONSTANT, 1, Programs.ADD,
                 Programs.CALL, 0, 0);
-        full.step(2000);
-        checks.same("full frames", full.look(5), (4000 - 11) / 32);
+        // Run after run, none has less room than the first one had.
+        for (int run = 0; run < 40; run++) {
+            full.start(0, 0, 4000);
+            full.step(2000);
+            checks.same("full frames of run " + run, full.look(5), (4000 - 11) / 32);
+        }
         for (int i = 0; i < full.look(5); i++) {
             checks.same("argument of frame " + i, full.local(i, 0), i);
         }

@@ -4,6 +4,7 @@ public final class RoomTest {
         Checks checks = new Checks("RoomTest");
         checkTheLeastLatelyCalledGoes(checks);
         checkACallMakesLate(checks);
+        checkAnySegmentMayGo(checks);
         checkSegmentNeedsRoom(checks);
         checkFrameNeedsRoom(checks);
         checkNumberNeedsRoom(checks);
@@ -61,6 +62,30 @@ public final class RoomTest {
         int roomForTwo = callerBytes(5) + 2 * 20 + 16;
         afterCalls(checks, again, 5, roomForTwo, 3, 1, 0, 0, 1);
         checks.looks("1 went and came back", again, 1, roomForTwo - 16, roomForTwo, 6, 3);
+    }
+
+    /** The run begins in another segment each time, and each of the others goes in its turn. */
+    private static void checkAnySegmentMayGo(Checks checks) {
+        for (int first = 0; first < 5; first++) {
+            SegmentDesk desk = new SegmentDesk();
+            Programs.procedure(desk, first, 1);
+            for (int i = 1; i <= 4; i++) {
+                int called = (first + i) % 5;
+                Programs.append(desk, first, Programs.CONSTANT, 1, Programs.CALL, called, 0, Programs.SET, 0);
+                Programs.procedure(desk, called, 1, Programs.GET, 0, Programs.RETURN);
+                Programs.padTo(desk, called, 20);
+            }
+            Programs.append(desk, first, Programs.END);
+            desk.start(first, 0, callerBytes(4) + 20 + 16);
+            for (int i = 1; i <= 4; i++) {
+                desk.step(5);
+                for (int other = 0; other < 5; other++) {
+                    int due = other == first ? 3 : other == (first + i) % 5 ? 1 : 0;
+                    checks.same(first + " called " + i + ": state(" + other + ")", desk.state(other), due);
+                }
+            }
+            checks.same("three went", desk.look(4), 3);
+        }
     }
 
     private static void checkSegmentNeedsRoom(Checks checks) {

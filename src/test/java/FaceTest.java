@@ -1,0 +1,64 @@
+import java.lang.reflect.Constructor;
+import java.lang.reflect.Field;
+import java.lang.reflect.Method;
+import java.lang.reflect.Modifier;
+import java.util.Set;
+import java.util.TreeSet;
+
+/** The class has the document's face, and no member beside it that others could use. */
+public final class FaceTest {
+    private static final Set<String> FACE = Set.of(
+            "int code(int, byte)", "void clear(int)", "int good(int)", "void start(int, int, int)", "int step(int)",
+            "int look(int)", "int state(int)", "int out(int)", "int local(int, int)");
+
+    public static void main(String[] args) {
+        Checks checks = new Checks("FaceTest");
+        checks.same("public and final", SegmentDesk.class.getModifiers(), Modifier.PUBLIC | Modifier.FINAL);
+        checkMethods(checks);
+        checkConstructors(checks);
+        for (Field field : SegmentDesk.class.getDeclaredFields()) {
+            checks.same("private: " + field, Modifier.isPrivate(field.getModifiers()) ? 1 : 0, 1);
+        }
+        for (Class<?> inside : SegmentDesk.class.getDeclaredClasses()) {
+            checkInside(checks, inside);
+        }
+        checks.finish();
+    }
+
+    private static void checkMethods(Checks checks) {
+        Set<String> seen = new TreeSet<>();
+        for (Method method : SegmentDesk.class.getDeclaredMethods()) {
+            if (!Modifier.isPrivate(method.getModifiers())) {
+                checks.same("public alone: " + method, method.getModifiers(), Modifier.PUBLIC);
+                seen.add(signature(method));
+            }
+        }
+        checks.same("the face is " + FACE + ", seen " + seen, seen.equals(FACE) ? 1 : 0, 1);
+    }
+
+    private static String signature(Method method) {
+        StringBuilder text = new StringBuilder();
+        text.append(method.getReturnType().getName()).append(' ').append(method.getName()).append('(');
+        for (Class<?> type : method.getParameterTypes()) {
+            text.append(text.charAt(text.length() - 1) == '(' ? "" : ", ").append(type.getName());
+        }
+        return text.append(')').toString();
+    }
+
+    private static void checkConstructors(Checks checks) {
+        Constructor<?>[] all = SegmentDesk.class.getDeclaredConstructors();
+        checks.same("constructors", all.length, 1);
+        checks.same("its parameters", all[0].getParameterCount(), 0);
+        checks.same("it is public", all[0].getModifiers(), Modifier.PUBLIC);
+    }
+
+    private static void checkInside(Checks checks, Class<?> inside) {
+        int modifiers = inside.getModifiers();
+        boolean hidden = !Modifier.isPublic(modifiers) && !Modifier.isProtected(modifiers);
+        checks.same("hidden and static: " + inside, hidden && Modifier.isStatic(modifiers) ? 1 : 0, 1);
+        for (Method method : inside.getDeclaredMethods()) {
+            boolean ofFace = FACE.stream().anyMatch(text -> text.contains(" " + method.getName() + "("));
+            checks.same("no name of the face: " + method, ofFace ? 1 : 0, 0);
+        }
+    }
+}
