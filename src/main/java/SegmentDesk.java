@@ -250,16 +250,12 @@ public final class SegmentDesk {
             }
         }
 
-        boolean addNumber() {
-            return hold(NUMBER_BYTES, NONE);
-        }
-
         void dropNumber() {
             held -= NUMBER_BYTES;
         }
 
         /** Makes room and fills it; the segment that is called stays, though it may have no frame yet. */
-        private boolean hold(int bytes, int called) {
+        boolean hold(int bytes, int called) {
             for (int went = 0; held + bytes > limit && went < SEGMENTS; went++) {
                 int segment = leastLatelyCalled(called);
                 if (segment == NONE) {
@@ -550,7 +546,7 @@ public final class SegmentDesk {
         }
 
         private boolean push(int number) {
-            if (!memory.addNumber()) {
+            if (!memory.hold(NUMBER_BYTES, NONE)) {
                 status = OVERFLOW;
                 return false;
             }

@@ -134,7 +134,8 @@ public final class InstructionTest {
         bad(checks, "-1", 0, -1);
         bad(checks, "-128", 0, -128);
         bad(checks, "nothing there", 0);
-        for (int kind : new int[] {Programs.CONSTANT, Programs.GET, Programs.SET, Programs.JUMP_IF_ZERO, Programs.JUMP}) {
+        int[] twoBytes = {Programs.CONSTANT, Programs.GET, Programs.SET, Programs.JUMP_IF_ZERO, Programs.JUMP};
+        for (int kind : twoBytes) {
             bad(checks, "cut off: " + kind, 1, kind);
         }
         bad(checks, "cut off: CALL", 1, Programs.CALL, 0);

@@ -118,7 +118,8 @@ public final class RandomRunsTest {
     }
 
     private void stepSome() {
-        int n = random.nextInt(20) == 0 ? random.nextInt(2100) - 50 : random.nextInt(4) == 0 ? 2000 : random.nextInt(12);
+        int drawn = random.nextInt(20);
+        int n = drawn == 0 ? random.nextInt(2100) - 50 : drawn < 6 ? 2000 : random.nextInt(12);
         compare("step " + n, () -> desk.step(n), () -> model.step(n));
         mostGone = Math.max(mostGone, model.look(4));
         if (model.look(0) == 2) {
