@@ -16,6 +16,14 @@ final class Checks {
         }
     }
 
+    void sameText(String what, String got, String due) {
+        done++;
+        if (!got.equals(due)) {
+            wrong++;
+            System.out.println(test + ": " + what + " answered <" + got + ">, due is <" + due + ">");
+        }
+    }
+
     /** The kind must be the exact one: no promise names a subclass. */
     void throwsA(Class<? extends RuntimeException> kind, String what, Runnable call) {
         done++;

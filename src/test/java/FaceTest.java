@@ -32,6 +32,7 @@ public final class FaceTest {
                 checks.same("public alone: " + method, method.getModifiers(), Modifier.PUBLIC);
                 seen.add(signature(method));
             }
+            checkName(checks, method);
         }
         checks.same("the face is " + FACE + ", seen " + seen, seen.equals(FACE) ? 1 : 0, 1);
     }
@@ -55,10 +56,17 @@ public final class FaceTest {
     private static void checkInside(Checks checks, Class<?> inside) {
         int modifiers = inside.getModifiers();
         boolean hidden = !Modifier.isPublic(modifiers) && !Modifier.isProtected(modifiers);
-        checks.same("hidden and static: " + inside, hidden && Modifier.isStatic(modifiers) ? 1 : 0, 1);
+        checks.same("hidden: " + inside, hidden ? 1 : 0, 1);
         for (Method method : inside.getDeclaredMethods()) {
+            checkName(checks, method);
+        }
+    }
+
+    /** LANGUAGE.md, rule 1. */
+    private static void checkName(Checks checks, Method method) {
+        if (Modifier.isPrivate(method.getModifiers())) {
             boolean ofFace = FACE.stream().anyMatch(text -> text.contains(" " + method.getName() + "("));
-            checks.same("no name of the face: " + method, ofFace ? 1 : 0, 0);
+            checks.same("a private method without a name of the face: " + method, ofFace ? 1 : 0, 0);
         }
     }
 }

@@ -14,6 +14,9 @@ final class Programs {
     static final int RETURN = 11;
     static final int OUT = 12;
 
+    /** How many steps pushInt is. */
+    static final int PUSH_INT_STEPS = 21;
+
     private Programs() {
     }
 
@@ -29,11 +32,19 @@ final class Programs {
         append(desk, segment, instructions);
     }
 
-    /** Bytes behind the code that are never reached make a segment longer. */
+    /** Bytes behind the code that are never reached make a segment longer, by one at least. */
     static void padTo(SegmentDesk desk, int segment, int length) {
         int have = 0;
         while (have < length) {
             have = desk.code(segment, (byte) 0);
+        }
+    }
+
+    /** Pushes any int: a constant is a byte alone, so it is made of base 64 digits, in 32 bytes. */
+    static void pushInt(SegmentDesk desk, int segment, int number) {
+        append(desk, segment, CONSTANT, number >> 30);
+        for (int shift = 24; shift >= 0; shift -= 6) {
+            append(desk, segment, CONSTANT, 64, MULTIPLY, CONSTANT, number >> shift & 63, ADD);
         }
     }
 

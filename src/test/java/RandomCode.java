@@ -36,7 +36,7 @@ final class RandomCode {
     }
 
     private List<Integer> procedure(int s, int p) {
-        int locals = random.nextInt(80) == 0 ? 7 : random.nextInt(4);
+        int locals = random.nextInt(80) == 0 ? 7 : random.nextInt(random.nextInt(6) == 0 ? 7 : 4);
         List<Integer> bytes = new ArrayList<>();
         bytes.add(locals);
         int units = s == 0 && p == 0 ? 4 + random.nextInt(4) : 1 + random.nextInt(2);

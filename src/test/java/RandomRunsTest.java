@@ -5,6 +5,7 @@ import java.util.concurrent.Callable;
 public final class RandomRunsTest {
     private static final int RUNS = 8000;
     private static final int MOST_CALLS = 512;
+    private static final int COMPARE_ALL_CALLS = 24;
 
     private final Checks checks;
     private final Random random;
@@ -29,7 +30,8 @@ public final class RandomRunsTest {
         for (int run = 0; run < RUNS; run++) {
             RandomRunsTest test = new RandomRunsTest(checks, run);
             test.writeDisk();
-            while (test.calls < MOST_CALLS - 40) {
+            // What comes behind the last test of this, compareAll twice, must fit in too.
+            while (test.calls < MOST_CALLS - 2 * COMPARE_ALL_CALLS) {
                 test.callSomething();
             }
             test.compareAll();
