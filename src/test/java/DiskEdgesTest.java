@@ -28,8 +28,9 @@ public final class DiskEdgesTest {
             Programs.procedure(desk, segment, 1, Programs.END);
             desk.start(segment, 5, 16);
             for (int other = 0; other <= 4; other++) {
-                checks.same(segment + " alone is GOOD: good(" + other + ")", desk.good(other), other == segment ? 1 : 0);
-                checks.same(segment + " alone runs: state(" + other + ")", desk.state(other), other == segment ? 3 : 0);
+                boolean same = other == segment;
+                checks.same(segment + " alone is GOOD: good(" + other + ")", desk.good(other), same ? 1 : 0);
+                checks.same(segment + " alone runs: state(" + other + ")", desk.state(other), same ? 3 : 0);
             }
             checks.same("the latest frame's segment", desk.look(6), segment);
             desk.clear(segment);
@@ -108,7 +109,7 @@ public final class DiskEdgesTest {
         }
     }
 
-    /** "bytes 1 .. P, without sign, are each above P and below its length": every byte there, at both ends of length. */
+    /** "bytes 1 .. P, without sign, are each above P and below its length": every byte there, short rows and long. */
     private static void checkEveryBegin(Checks checks) {
         for (int p = 1; p <= 4; p++) {
             for (int length : new int[] {p + 2, p + 3, 79, 80}) {

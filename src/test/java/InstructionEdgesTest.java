@@ -117,7 +117,8 @@ public final class InstructionEdgesTest {
     private static void calculation(Checks checks, int kind, int a, int b, int due) {
         SegmentDesk desk = Programs.desk(2, Programs.GET, 0);
         Programs.pushInt(desk, 0, b);
-        Programs.append(desk, 0, kind, Programs.SET, 1, Programs.GET, 1, Programs.OUT, Programs.GET, 1, Programs.RETURN);
+        Programs.append(desk, 0, kind, Programs.SET, 1, Programs.GET, 1, Programs.OUT, Programs.GET, 1,
+                Programs.RETURN);
         desk.start(0, a, 4000);
         desk.step(1 + Programs.PUSH_INT_STEPS);
         String what = a + " and " + b + ", instruction " + kind;
@@ -181,13 +182,14 @@ public final class InstructionEdgesTest {
             desk.start(0, 77, 4000);
             checks.same("steps", desk.step(2000), numbers + 1);
             int held = 4 + 2 * numbers + 20 + 4 * numbers;
-            checks.looks(numbers + " numbers", desk, 2, held - 4, held, 1, 0, 1, 0, 3 + 2 * numbers, numbers - 1, numbers);
+            int place = 3 + 2 * numbers;
+            checks.looks(numbers + " numbers", desk, 2, held - 4, held, 1, 0, 1, 0, place, numbers - 1, numbers);
             checks.same("its local stays", desk.local(0, 0), 77);
             checks.states("its segment stays", desk, 3, 0, 0, 0, 0);
         }
     }
 
-    /** "the top is taken, and is pushed for the caller"; "When a frame goes (RETURN, with its stack), its segment stays" */
+    /** "the top is taken, and is pushed for the caller"; "When a frame goes [..], its segment stays" */
     private static void checkReturnToACaller(Checks checks) {
         for (int numbers = 1; numbers <= 12; numbers++) {
             SegmentDesk desk = Programs.desk(0, Programs.CONSTANT, 40, Programs.CONSTANT, 41, Programs.CALL, 1, 0,

@@ -313,7 +313,7 @@ public final class MemoryEdgesTest {
         checks.looks("1 went for 2", desk, 1, caller + 80 + 8, caller + 80 + 8, 3, 1);
     }
 
-    /** "if the segment is not resident, room for its length, and it is (a LOAD)": none while it stays, each time it went */
+    /** "if the segment is not resident, room for its length, and it is (a LOAD)": one each time it went, else none */
     private static void checkLoads(Checks checks) {
         SegmentDesk desk = Programs.desk(1);
         for (int time = 0; time < 5; time++) {

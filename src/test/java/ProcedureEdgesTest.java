@@ -142,7 +142,8 @@ public final class ProcedureEdgesTest {
 
     /** BAD is "a call of a segment that is not GOOD": each way not to be. */
     private static void checkNotGoodIsNotCalled(Checks checks) {
-        int[][] rows = {{}, {1}, {1, 2}, {0, 2, 0}, {-1, 2, 0}, {5, 6, 6, 6, 6, 6, 0}, {1, 1, 0}, {1, 3, 0}, {1, -1, 0}};
+        int[][] rows = {
+            {}, {1}, {1, 2}, {0, 2, 0}, {-1, 2, 0}, {5, 6, 6, 6, 6, 6, 0}, {1, 1, 0}, {1, 3, 0}, {1, -1, 0}};
         for (int[] row : rows) {
             SegmentDesk desk = Programs.desk(0, Programs.CONSTANT, 4, Programs.CONSTANT, 5, Programs.CALL, 1, 0);
             Programs.append(desk, 1, row);

@@ -149,7 +149,7 @@ public final class RunEdgesTest {
         }
     }
 
-    /** "Where a frame is, is the byte at which its next instruction begins (of a run that has ended the one by which it did)" */
+    /** "Where a frame is, is [..] (of a run that has ended the one by which it did)" */
     private static void checkWhereAnEndedRunIs(Checks checks) {
         where(checks, "END", 2, 5, Programs.CONSTANT, 1, Programs.END);
         where(checks, "RETURN", 2, 5, Programs.CONSTANT, 1, Programs.RETURN);
