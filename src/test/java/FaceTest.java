@@ -8,8 +8,15 @@ import java.util.TreeSet;
 /** The class has the document's face, and no member beside it that others could use. */
 public final class FaceTest {
     private static final Set<String> FACE = Set.of(
-            "int code(int, byte)", "void clear(int)", "int good(int)", "void start(int, int, int)", "int step(int)",
-            "int look(int)", "int state(int)", "int out(int)", "int local(int, int)");
+            "int code(int, byte) throws IllegalArgumentException IndexOutOfBoundsException",
+            "void clear(int) throws IllegalArgumentException",
+            "int good(int) throws IllegalArgumentException",
+            "void start(int, int, int) throws IllegalArgumentException IllegalStateException",
+            "int step(int) throws IllegalStateException IllegalArgumentException",
+            "int look(int) throws IllegalArgumentException",
+            "int state(int) throws IllegalArgumentException",
+            "int out(int) throws IndexOutOfBoundsException",
+            "int local(int, int)");
 
     public static void main(String[] args) {
         Checks checks = new Checks("FaceTest");
@@ -43,7 +50,11 @@ public final class FaceTest {
         for (Class<?> type : method.getParameterTypes()) {
             text.append(text.charAt(text.length() - 1) == '(' ? "" : ", ").append(type.getName());
         }
-        return text.append(')').toString();
+        text.append(')').append(method.getExceptionTypes().length > 0 ? " throws" : "");
+        for (Class<?> type : method.getExceptionTypes()) {
+            text.append(' ').append(type.getSimpleName());
+        }
+        return text.toString();
     }
 
     private static void checkConstructors(Checks checks) {
