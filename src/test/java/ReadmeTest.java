@@ -51,8 +51,8 @@ public final class ReadmeTest {
         checks.sameText("the example with 68 bytes", outputWith(68, readme, copy), due
                 .replace("went 1, most held 59", "went 0, most held 68")
                 .replace("states 3 0 1", "states 3 1 1") + "exit code 0\n");
-        String tooSmall = outputWith(58, readme, copy);
-        checks.same("the example with 58 bytes is OVERFLOW", tooSmall.contains("ended as 4\n") ? 1 : 0, 1);
+        checks.sameText("the example with 58 bytes", outputWith(58, readme, copy), "steps 4\nended as 4\nresult 0\n"
+                + "loads 2, went 0, most held 55\nstates 3 3 0\nexit code 0\n");
     }
 
     private static String outputWith(int limit, String readme, Path copy) throws IOException, InterruptedException {
